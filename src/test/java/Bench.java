@@ -87,4 +87,10 @@ final class Bench {
         second(1);
         return cores.register(1, A);
     }
+
+    /** Machine 0 comes to $300 with these registers; what is at $100 and S is lost. */
+    Bench state(int a, int x, int y, int s, int p) {
+        start(0, 0xE00, String.format("A2 %02X 9A A9 %02X 48 A2 %02X A0 %02X A9 %02X 28 4C 00 03", s, p, x, y, a));
+        return first(9);
+    }
 }
