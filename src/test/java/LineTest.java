@@ -128,6 +128,12 @@ final class LineTest {
             bench.firstWrites(0xFEDF + 2 * port, 1).second(1);
             CHECK.same("port " + port, bench.cores.register(1, Bench.PC), port == 3 ? 0x700 : 0x302);
         }
+        for (int flag = Q; flag <= V; flag *= 2) {
+            Bench single = nmiBench().firstWrites(FLAGS, M).firstWrites(FLAGS, 0x80 | flag);
+            single.start(1, 0x300, "EA EA EA EA").second(1);
+            single.firstWrites(0xFEE5, 1).second(1);
+            CHECK.same("flag " + flag + " alone", single.cores.register(1, Bench.PC), flag == M ? 0x700 : 0x302);
+        }
         Bench bench = nmiBench().firstWrites(FLAGS, 0x80 | V).start(1, 0x300, "EA EA EA EA").second(1);
         bench.firstWrites(0xFEE5, 1).second(1);
         at("with V one is not enough", bench, 1, 0x302, 0xFD, 0x24);

@@ -187,6 +187,10 @@ final class PortTest {
             fillFromFirst(bench, port, 5);
             CHECK.same("port " + port + " with V", bench.cores.waits(1, port), port == 3 ? 2 : 1);
         }
+        Bench others = new Bench();
+        others.firstWrites(FIRST, 0x8F);
+        fillFromFirst(others, 3, 5);
+        CHECK.same("with all flags but V and P", others.cores.waits(1, 3), 1);
     }
 
     private static void bytesOverTheLengthStay() {
@@ -218,6 +222,10 @@ final class PortTest {
         CHECK.same("nothing waits", bench.cores.waits(0, 1) + bench.cores.waits(1, 1), 0);
         CHECK.same("0 reads $0EE1", bench.firstReads(0xEE1), 0x22);
         CHECK.same("1 reads $1EF9", bench.secondReads(0x1EF9), 0x32);
+        CHECK.same("0 reads $FEDF", bench.firstReads(FIRST - 1), 0x23);
+        CHECK.same("0 reads $FEE8", bench.firstReads(FIRST + 8), 0x24);
+        CHECK.same("1 reads $FEF7", bench.secondReads(SECOND - 1), 0x33);
+        CHECK.same("1 reads $0EF8 beside its ports", bench.secondReads(0xEF8), 0);
     }
 
     /** A byte goes by whatever reads it, and comes by whatever writes it. */
