@@ -8,7 +8,21 @@ final class Bench {
     static final int PC = 5;
     static final int STANDS = 6;
 
+    /** The flags that machine 0 writes, and the bit that makes them 1. */
+    static final int FLAG_Q = 0x01;
+    static final int FLAG_I = 0x02;
+    static final int FLAG_J = 0x04;
+    static final int FLAG_M = 0x08;
+    static final int FLAG_V = 0x10;
+    static final int FLAG_P = 0x20;
+    static final int SET = 0x80;
+
     final TwinCores cores = new TwinCores();
+
+    /** Where a machine has its port's place k. */
+    static int portPlace(int machine, int k) {
+        return (machine == 0 ? 0xFEE0 : 0xFEF8) + k;
+    }
 
     static int[] bytesOf(String hex) {
         String digits = hex.replace(" ", "");
@@ -88,9 +102,32 @@ final class Bench {
         return cores.register(1, A);
     }
 
+    /** Machine 0 writes the flags at its place 0: to set them, with SET. */
+    Bench flags(int value) {
+        return firstWrites(0xFEE0, value);
+    }
+
+    Bench go(int machine, int steps) {
+        return machine == 0 ? first(steps) : second(steps);
+    }
+
+    Bench writes(int machine, int place, int value) {
+        return machine == 0 ? firstWrites(place, value) : secondWrites(place, value);
+    }
+
+    int reads(int machine, int place) {
+        return machine == 0 ? firstReads(place) : secondReads(place);
+    }
+
     /** Machine 0 comes to $300 with these registers; what is at $100 and S is lost. */
     Bench state(int a, int x, int y, int s, int p) {
-        start(0, 0xE00, String.format("A2 %02X 9A A9 %02X 48 A2 %02X A0 %02X A9 %02X 28 4C 00 03", s, p, x, y, a));
-        return first(9);
+        return stateAt(0, 0x300, a, x, y, s, p);
+    }
+
+    /** A machine comes to a place with these registers; what is at $100 and S is lost. */
+    Bench stateAt(int machine, int place, int a, int x, int y, int s, int p) {
+        start(machine, 0xE00, String.format("A2 %02X 9A A9 %02X 48 A2 %02X A0 %02X A9 %02X 28 4C %02X %02X",
+                s, p, x, y, a, place & 0xFF, place >> 8));
+        return go(machine, 9);
     }
 }

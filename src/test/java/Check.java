@@ -1,3 +1,5 @@
+import java.util.List;
+
 /** Counts what is as due and prints what is not. */
 final class Check {
     interface Call {
@@ -6,14 +8,46 @@ final class Check {
 
     private int right;
     private int wrong;
+    private String sentence = "";
+
+    /**
+     * A test of its own for a sentence of the document: what it throws is its own
+     * fault and stops no other test, and one that looks at nothing is wrong.
+     */
+    void test(String told, Call test) {
+        sentence = "[" + told + "] ";
+        int looked = right + wrong;
+        try {
+            test.make();
+        } catch (RuntimeException e) {
+            wrong++;
+            System.out.println(sentence + "threw " + e);
+        }
+        holds("looks at something", right + wrong > looked);
+        sentence = "";
+    }
 
     void same(String what, long got, long want) {
         if (got == want) {
             right++;
         } else {
             wrong++;
-            System.out.println(what + ": got " + got + ", due is " + want);
+            System.out.println(sentence + what + ": got " + got + ", due is " + want);
         }
+    }
+
+    /** All that can be asked of two objects is the same; the first difference is told. */
+    void sameState(String what, State.Past got, State.Past want) {
+        List<String> here = State.of(got);
+        List<String> due = State.of(want);
+        for (int i = 0; i < due.size(); i++) {
+            if (!here.get(i).equals(due.get(i))) {
+                wrong++;
+                System.out.println(sentence + what + ": " + here.get(i) + ", due: " + due.get(i));
+                return;
+            }
+        }
+        right++;
     }
 
     void holds(String what, boolean got) {
