@@ -9,6 +9,7 @@ final class NewEdgeTest {
         CHECK.test("both machines stand", NewEdgeTest::bothStand);
         CHECK.test("clear: all as at first, whatever was before", NewEdgeTest::clearedIsNew);
         CHECK.test("clear: what comes later is as of a new object", NewEdgeTest::clearedGoesOnAsNew);
+        CHECK.test("clear: each row takes and gives bytes as at first", NewEdgeTest::clearedRows);
         CHECK.test("clear: twice", NewEdgeTest::clearedTwice);
         CHECK.test("bit 5 of P is always 1, bit 4 0", NewEdgeTest::bitsOfP);
         CHECK.test("RESET: S is $FD, I 1, PC the word at $FFFC", NewEdgeTest::resetSets);
@@ -104,6 +105,21 @@ final class NewEdgeTest {
         cores.reset(1);
         cores.run(30, 1);
         return cores;
+    }
+
+    /** The second byte has no room in any row, for V is 0, but in the long one. */
+    private static void clearedRows() {
+        Bench bench = new Bench();
+        for (int round = 0; round < 3; round++) {
+            for (int from = 0; from < 2; from++) {
+                for (int k = 1; k < 8; k += 2) {
+                    bench.writes(from, Bench.portPlace(from, k), 0x30 + k).writes(from, Bench.portPlace(from, k), 0x40 + k);
+                    CHECK.same("waits", bench.cores.waits(1 - from, k / 2 + 1), from == 1 && k == 1 ? 2 : 1);
+                    CHECK.same("read", bench.reads(1 - from, Bench.portPlace(1 - from, k)), 0x30 + k);
+                }
+            }
+            bench.cores.clear();
+        }
     }
 
     private static void clearedTwice() {

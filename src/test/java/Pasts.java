@@ -10,9 +10,18 @@ final class Pasts {
         Bench bench = new Bench().flags(Bench.SET | Bench.FLAG_Q | Bench.FLAG_M | Bench.FLAG_V);
         bench.vector(0, 0xFFFE, 0x280).put(0, 0x280, "AD E7 FE E8 40");
         bench.vector(1, 0xFFFA, 0x380).put(1, 0x380, "C8 40").vector(1, 0xFFFE, 0x3C0).put(1, 0x3C0, "AD FF FE 40");
+        leaveLatestBytes(bench);
         fillFromSecond(bench);
         fillFromFirst(bench);
         return bench.start(0, 0x200, "A9 81 A2 42 A0 24 08 58 AD E1 FE 8D E7 FE 4C 07 02").first(4).cores;
+    }
+
+    /** So that an empty row would have another byte to show than 0. */
+    private static void leaveLatestBytes(Bench bench) {
+        for (int k = 1; k < 8; k += 2) {
+            bench.firstWrites(Bench.portPlace(0, k), 0xA0 + k).secondReads(Bench.portPlace(1, k));
+            bench.secondWrites(Bench.portPlace(1, k), 0xB0 + k).firstReads(Bench.portPlace(0, k));
+        }
     }
 
     private static void fillFromSecond(Bench bench) {
