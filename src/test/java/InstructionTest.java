@@ -1,7 +1,7 @@
 import java.util.HashSet;
 import java.util.Set;
 
-/** Every code: what it does, by every way, and the codes that a machine stands at. */
+/** Every code on each machine: what it does, by every way, and the codes that a machine stands at. */
 final class InstructionTest {
     private static final int A = 0x91;
     private static final int X = 0x85;
@@ -11,7 +11,17 @@ final class InstructionTest {
     private static final Check CHECK = new Check();
     private static final Set<Integer> SEEN = new HashSet<>();
 
+    private static int machine;
+
     public static void main(String[] args) {
+        for (machine = 0; machine < 2; machine++) {
+            SEEN.clear();
+            everyCode();
+        }
+        CHECK.end();
+    }
+
+    private static void everyCode() {
         loads();
         withA();
         comparisons();
@@ -26,7 +36,6 @@ final class InstructionTest {
         edgesOfWays();
         CHECK.same("codes seen", SEEN.size(), 151);
         others();
-        CHECK.end();
     }
 
     private static int hex(String digits) {
@@ -41,12 +50,12 @@ final class InstructionTest {
         SEEN.add(code);
         Bench bench = new Bench();
         int place = placeOf(way);
-        bench.put(0, 0x10, "56 14").put(0, 0x20, "8F 13");
-        bench.put(0, 0x300, String.format("%02X ", code) + operand(way, value));
+        bench.put(machine, 0x10, "56 14").put(machine, 0x20, "8F 13");
+        bench.put(machine, 0x300, String.format("%02X ", code) + operand(way, value));
         if (!way.equals("#")) {
-            bench.put(0, place, String.format("%02X", value));
+            bench.put(machine, place, String.format("%02X", value));
         }
-        return bench.state(A, X, Y, 0xFD, p).first(1);
+        return bench.stateAt(machine, 0x300, A, X, Y, 0xFD, p).go(machine, 1);
     }
 
     private static int placeOf(String way) {
@@ -80,7 +89,7 @@ final class InstructionTest {
     private static void is(String what, Bench bench, int a, int x, int y, int s, int p, int pc) {
         int[] due = {a, x, y, s, p, pc, 0};
         for (int k = 0; k < 7; k++) {
-            CHECK.same(what + ": register " + k, bench.cores.register(0, k), due[k]);
+            CHECK.same(what + ": register " + k, bench.cores.register(machine, k), due[k]);
         }
     }
 
@@ -162,8 +171,8 @@ final class InstructionTest {
             int flags = p;
             eachWay(name, ways, 0, 0x00, flags, (what, bench, pc, place) -> {
                 is(what, bench, A, X, Y, 0xFD, flags, pc);
-                CHECK.same(what + ": the byte", bench.cores.byteAt(0, place), stored);
-                CHECK.same(what + ": the byte behind it", bench.cores.byteAt(0, place + 1), 0);
+                CHECK.same(what + ": the byte", bench.cores.byteAt(machine, place), stored);
+                CHECK.same(what + ": the byte behind it", bench.cores.byteAt(machine, place + 1), 0);
             });
         }
     }
@@ -177,7 +186,7 @@ final class InstructionTest {
     private static void change(String name, String ways, int value, int before, int result, int after) {
         eachWay(name, ways, 0, value, before, (what, bench, pc, place) -> {
             is(what, bench, A, X, Y, 0xFD, after, pc);
-            CHECK.same(what + ": the byte", bench.cores.byteAt(0, place), result);
+            CHECK.same(what + ": the byte", bench.cores.byteAt(machine, place), result);
         });
     }
 
@@ -213,63 +222,92 @@ final class InstructionTest {
         SEEN.add(code);
         int[] b = Bench.bytesOf(before);
         int[] d = Bench.bytesOf(after);
-        Bench bench = new Bench().put(0, 0x300, String.format("%02X", code));
-        bench.state(b[0], b[1], b[2], b[3], b[4]).first(1);
+        Bench bench = new Bench().put(machine, 0x300, String.format("%02X", code));
+        bench.stateAt(machine, 0x300, b[0], b[1], b[2], b[3], b[4]).go(machine, 1);
         is(name, bench, d[0], d[1], d[2], d[3], d[4], 0x301);
         return bench;
     }
 
     private static void changesOfA() {
         alone("ASL A", 0x0A, "C1 22 33 FD 21", "82 22 33 FD A1");
+        alone("ASL A", 0x0A, "80 22 33 FD E0", "00 22 33 FD 63");
         alone("ROL A", 0x2A, "41 22 33 FD A1", "83 22 33 FD A0");
+        alone("ROL A", 0x2A, "80 22 33 FD E0", "00 22 33 FD 63");
         alone("LSR A", 0x4A, "01 22 33 FD A0", "00 22 33 FD 23");
+        alone("LSR A", 0x4A, "82 22 33 FD E3", "41 22 33 FD 60");
         alone("ROR A", 0x6A, "02 22 33 FD 21", "81 22 33 FD A0");
+        alone("ROR A", 0x6A, "01 22 33 FD E0", "00 22 33 FD 63");
+    }
+
+    private static final int[] VALUES = {0x00, 0x01, 0x7F, 0x80, 0xFF};
+    private static final int[] STATES = {0x20, 0xEF};
+
+    /** One register comes into another, or into itself, with so much more. */
+    private static void move(String name, int code, int from, int to, int more, boolean setsFlags) {
+        for (int value : VALUES) {
+            for (int p : STATES) {
+                int[] before = {0x5A, 0x22, 0x33, 0xF0};
+                before[from] = value;
+                int[] after = before.clone();
+                after[to] = value + more & 0xFF;
+                alone(name + " of " + value, code, row(before, p), row(after, setsFlags ? shown(p, after[to]) : p));
+            }
+        }
+    }
+
+    private static String row(int[] r, int p) {
+        return String.format("%02X %02X %02X %02X %02X", r[0], r[1], r[2], r[3], p);
+    }
+
+    /** P with N and Z by a byte. */
+    private static int shown(int p, int value) {
+        return p & 0x7D | (value > 127 ? 0x80 : 0) | (value == 0 ? 0x02 : 0);
     }
 
     private static void registers() {
-        alone("TAX", 0xAA, "81 22 33 F0 63", "81 81 33 F0 E1");
-        alone("TAY", 0xA8, "00 22 33 F0 E1", "00 22 00 F0 63");
-        alone("TXA", 0x8A, "81 22 33 F0 E3", "22 22 33 F0 61");
-        alone("TYA", 0x98, "81 22 B3 F0 22", "B3 22 B3 F0 A0");
-        alone("TSX", 0xBA, "01 22 33 F0 22", "01 F0 33 F0 A0");
-        alone("TSX of 0", 0xBA, "01 22 33 00 A0", "01 00 33 00 22");
-        alone("TXS", 0x9A, "01 00 33 F0 A0", "01 00 33 00 A0");
-        alone("TXS", 0x9A, "01 99 33 F0 22", "01 99 33 99 22");
-        alone("INX", 0xE8, "01 FF 33 F0 E1", "01 00 33 F0 63");
-        alone("INX", 0xE8, "01 7F 33 F0 22", "01 80 33 F0 A0");
-        alone("INY", 0xC8, "01 22 FF F0 E1", "01 22 00 F0 63");
-        alone("INY", 0xC8, "01 22 06 F0 E3", "01 22 07 F0 61");
-        alone("DEX", 0xCA, "01 00 33 F0 22", "01 FF 33 F0 A0");
-        alone("DEX", 0xCA, "01 01 33 F0 E1", "01 00 33 F0 63");
-        alone("DEY", 0x88, "01 22 00 F0 22", "01 22 FF F0 A0");
-        alone("DEY", 0x88, "01 22 80 F0 E3", "01 22 7F F0 61");
-        alone("NOP", 0xEA, "01 22 33 F0 EF", "01 22 33 F0 EF");
-        alone("NOP", 0xEA, "01 22 33 F0 20", "01 22 33 F0 20");
+        move("TAX", 0xAA, Bench.A, Bench.X, 0, true);
+        move("TAY", 0xA8, Bench.A, Bench.Y, 0, true);
+        move("TXA", 0x8A, Bench.X, Bench.A, 0, true);
+        move("TYA", 0x98, Bench.Y, Bench.A, 0, true);
+        move("TSX", 0xBA, Bench.S, Bench.X, 0, true);
+        move("TXS", 0x9A, Bench.X, Bench.S, 0, false);
+        move("INX", 0xE8, Bench.X, Bench.X, 1, true);
+        move("INY", 0xC8, Bench.Y, Bench.Y, 1, true);
+        move("DEX", 0xCA, Bench.X, Bench.X, -1, true);
+        move("DEY", 0x88, Bench.Y, Bench.Y, -1, true);
+        move("NOP", 0xEA, Bench.A, Bench.A, 0, false);
+    }
+
+    /** From no flag, and from all of them. */
+    private static void flag(String name, int code, int bit, boolean on) {
+        for (int p : STATES) {
+            alone(name, code, row(new int[] {1, 0x22, 0x33, 0xF0}, p), row(new int[] {1, 0x22, 0x33, 0xF0}, on ? p | bit : p & ~bit));
+        }
     }
 
     private static void flags() {
-        alone("CLC", 0x18, "01 22 33 F0 EF", "01 22 33 F0 EE");
-        alone("SEC", 0x38, "01 22 33 F0 20", "01 22 33 F0 21");
-        alone("CLI", 0x58, "01 22 33 F0 EF", "01 22 33 F0 EB");
-        alone("SEI", 0x78, "01 22 33 F0 20", "01 22 33 F0 24");
-        alone("CLV", 0xB8, "01 22 33 F0 EF", "01 22 33 F0 AF");
-        alone("CLD", 0xD8, "01 22 33 F0 EF", "01 22 33 F0 E7");
-        alone("SED", 0xF8, "01 22 33 F0 20", "01 22 33 F0 28");
+        flag("CLC", 0x18, 0x01, false);
+        flag("SEC", 0x38, 0x01, true);
+        flag("CLI", 0x58, 0x04, false);
+        flag("SEI", 0x78, 0x04, true);
+        flag("CLV", 0xB8, 0x40, false);
+        flag("CLD", 0xD8, 0x08, false);
+        flag("SED", 0xF8, 0x08, true);
     }
 
     private static void stack() {
         Bench bench = alone("PHA", 0x48, "81 22 33 F0 22", "81 22 33 EF 22");
-        CHECK.same("PHA's byte", bench.cores.byteAt(0, 0x1F0), 0x81);
+        CHECK.same("PHA's byte", bench.cores.byteAt(machine, 0x1F0), 0x81);
         bench = alone("PHA at the end", 0x48, "00 22 33 00 A0", "00 22 33 FF A0");
-        CHECK.same("PHA's byte at the end", bench.cores.byteAt(0, 0x100), 0x00);
+        CHECK.same("PHA's byte at the end", bench.cores.byteAt(machine, 0x100), 0x00);
         bench = alone("PHP", 0x08, "81 22 33 F0 C9", "81 22 33 EF E9");
-        CHECK.same("PHP's byte has bits 4 and 5", bench.cores.byteAt(0, 0x1F0), 0xF9);
+        CHECK.same("PHP's byte has bits 4 and 5", bench.cores.byteAt(machine, 0x1F0), 0xF9);
         pull("PLA", 0x68, 0x00, "81 22 33 F0 A1", "00 22 33 F1 23");
         pull("PLA", 0x68, 0xA5, "81 22 33 F0 23", "A5 22 33 F1 A1");
         pull("PLP", 0x28, 0xFF, "81 22 33 F0 20", "81 22 33 F1 EF");
         pull("PLP", 0x28, 0x00, "81 22 33 F0 EF", "81 22 33 F1 20");
         pull("PLP", 0x28, 0x5A, "81 22 33 F0 25", "81 22 33 F1 6A");
-        Bench round = new Bench().put(0, 0x100, "77").put(0, 0x300, "68").state(1, 2, 3, 0xFF, 0x20).first(1);
+        Bench round = new Bench().put(machine, 0x100, "77").put(machine, 0x300, "68").stateAt(machine, 0x300, 1, 2, 3, 0xFF, 0x20).go(machine, 1);
         is("PLA goes round", round, 0x77, 2, 3, 0x00, 0x20, 0x301);
     }
 
@@ -277,42 +315,42 @@ final class InstructionTest {
         SEEN.add(code);
         int[] b = Bench.bytesOf(before);
         int[] d = Bench.bytesOf(after);
-        Bench bench = new Bench().put(0, 0x1F1, String.format("%02X", pulled)).put(0, 0x300, String.format("%02X", code));
-        bench.state(b[0], b[1], b[2], b[3], b[4]).first(1);
+        Bench bench = new Bench().put(machine, 0x1F1, String.format("%02X", pulled)).put(machine, 0x300, String.format("%02X", code));
+        bench.stateAt(machine, 0x300, b[0], b[1], b[2], b[3], b[4]).go(machine, 1);
         is(name + " of " + pulled, bench, d[0], d[1], d[2], d[3], d[4], 0x301);
-        CHECK.same(name + ": the byte stays", bench.cores.byteAt(0, 0x1F1), pulled);
+        CHECK.same(name + ": the byte stays", bench.cores.byteAt(machine, 0x1F1), pulled);
     }
 
     private static Bench coded(String code, int s, int p) {
         SEEN.add(Bench.bytesOf(code)[0]);
-        return new Bench().put(0, 0x300, code).state(1, 2, 3, s, p);
+        return new Bench().put(machine, 0x300, code).stateAt(machine, 0x300, 1, 2, 3, s, p);
     }
 
     private static void jumps() {
-        is("JMP a", coded("4C 34 92", 0xFD, 0xE3).first(1), 1, 2, 3, 0xFD, 0xE3, 0x9234);
-        is("JMP of the word at a", coded("6C 80 04", 0xFD, 0xE3).put(0, 0x480, "CD AB").first(1), 1, 2, 3, 0xFD, 0xE3, 0xABCD);
-        is("6C stays in the page", coded("6C FF 04", 0xFD, 0x20).put(0, 0x4FF, "CD AB").put(0, 0x400, "77").first(1),
+        is("JMP a", coded("4C 34 92", 0xFD, 0xE3).go(machine, 1), 1, 2, 3, 0xFD, 0xE3, 0x9234);
+        is("JMP of the word at a", coded("6C 80 04", 0xFD, 0xE3).put(machine, 0x480, "CD AB").go(machine, 1), 1, 2, 3, 0xFD, 0xE3, 0xABCD);
+        is("6C stays in the page", coded("6C FF 04", 0xFD, 0x20).put(machine, 0x4FF, "CD AB").put(machine, 0x400, "77").go(machine, 1),
                 1, 2, 3, 0xFD, 0x20, 0x77CD);
-        Bench call = coded("20 34 92", 0xFD, 0xE3).first(1);
+        Bench call = coded("20 34 92", 0xFD, 0xE3).go(machine, 1);
         is("JSR", call, 1, 2, 3, 0xFB, 0xE3, 0x9234);
-        CHECK.same("JSR: the higher byte", call.cores.byteAt(0, 0x1FD), 0x03);
-        CHECK.same("JSR: the lower byte", call.cores.byteAt(0, 0x1FC), 0x02);
-        Bench round = coded("20 34 92", 0x00, 0x20).first(1);
+        CHECK.same("JSR: the higher byte", call.cores.byteAt(machine, 0x1FD), 0x03);
+        CHECK.same("JSR: the lower byte", call.cores.byteAt(machine, 0x1FC), 0x02);
+        Bench round = coded("20 34 92", 0x00, 0x20).go(machine, 1);
         is("JSR goes round", round, 1, 2, 3, 0xFE, 0x20, 0x9234);
-        CHECK.same("JSR goes round: higher", round.cores.byteAt(0, 0x100), 0x03);
-        CHECK.same("JSR goes round: lower", round.cores.byteAt(0, 0x1FF), 0x02);
-        is("RTS", coded("60", 0xF0, 0xE3).put(0, 0x1F1, "FF 12").first(1), 1, 2, 3, 0xF2, 0xE3, 0x1300);
-        is("RTS over the end", coded("60", 0xF0, 0x20).put(0, 0x1F1, "FF FF").first(1), 1, 2, 3, 0xF2, 0x20, 0x0000);
-        is("RTI", coded("40", 0xF0, 0x20).put(0, 0x1F1, "DB 34 12").first(1), 1, 2, 3, 0xF3, 0xEB, 0x1234);
-        Bench brk = coded("00", 0xF0, 0xC9).vector(0, 0xFFFE, 0xABCD).first(1);
+        CHECK.same("JSR goes round: higher", round.cores.byteAt(machine, 0x100), 0x03);
+        CHECK.same("JSR goes round: lower", round.cores.byteAt(machine, 0x1FF), 0x02);
+        is("RTS", coded("60", 0xF0, 0xE3).put(machine, 0x1F1, "FF 12").go(machine, 1), 1, 2, 3, 0xF2, 0xE3, 0x1300);
+        is("RTS over the end", coded("60", 0xF0, 0x20).put(machine, 0x1F1, "FF FF").go(machine, 1), 1, 2, 3, 0xF2, 0x20, 0x0000);
+        is("RTI", coded("40", 0xF0, 0x20).put(machine, 0x1F1, "DB 34 12").go(machine, 1), 1, 2, 3, 0xF3, 0xEB, 0x1234);
+        Bench brk = coded("00", 0xF0, 0xC9).vector(machine, 0xFFFE, 0xABCD).go(machine, 1);
         is("BRK", brk, 1, 2, 3, 0xED, 0xED, 0xABCD);
-        CHECK.same("BRK: higher", brk.cores.byteAt(0, 0x1F0), 0x03);
-        CHECK.same("BRK: lower", brk.cores.byteAt(0, 0x1EF), 0x02);
-        CHECK.same("BRK: P", brk.cores.byteAt(0, 0x1EE), 0xF9);
-        Bench atTheEnd = new Bench().start(0, 0xFFFE, "20").put(0, 0xFFFF, "34 12").first(1);
-        CHECK.same("an instruction over the end", atTheEnd.cores.register(0, Bench.PC), 0x1234);
-        CHECK.same("JSR from there: higher", atTheEnd.cores.byteAt(0, 0x1FD), 0x00);
-        CHECK.same("JSR from there: lower", atTheEnd.cores.byteAt(0, 0x1FC), 0x00);
+        CHECK.same("BRK: higher", brk.cores.byteAt(machine, 0x1F0), 0x03);
+        CHECK.same("BRK: lower", brk.cores.byteAt(machine, 0x1EF), 0x02);
+        CHECK.same("BRK: P", brk.cores.byteAt(machine, 0x1EE), 0xF9);
+        Bench atTheEnd = new Bench().start(machine, 0xFFFE, "20").put(machine, 0xFFFF, "34 12").go(machine, 1);
+        CHECK.same("an instruction over the end", atTheEnd.cores.register(machine, Bench.PC), 0x1234);
+        CHECK.same("JSR from there: higher", atTheEnd.cores.byteAt(machine, 0x1FD), 0x00);
+        CHECK.same("JSR from there: lower", atTheEnd.cores.byteAt(machine, 0x1FC), 0x00);
     }
 
     private static void branches() {
@@ -322,34 +360,37 @@ final class InstructionTest {
         };
         int[][] bytesAndPlaces = {{0x00, 0x302}, {0x7F, 0x381}, {0x80, 0x282}, {0xFE, 0x300}};
         for (int[] row : codesFlagsWanted) {
-            for (int on = 0; on < 2; on++) {
-                int p = on == 1 ? 0x20 | row[1] : 0xEF & ~row[1];
+            int[] states = {0x20, 0x20 | row[1], 0xEF & ~row[1], 0xEF};
+            for (int p : states) {
+                boolean goes = ((p & row[1]) != 0) == (row[2] == 1);
                 for (int[] jump : bytesAndPlaces) {
-                    Bench bench = coded(String.format("%02X %02X", row[0], jump[0]), 0xFD, p).first(1);
-                    is("branch " + row[0] + " P " + p, bench, 1, 2, 3, 0xFD, p, on == row[2] ? jump[1] : 0x302);
+                    Bench bench = coded(String.format("%02X %02X", row[0], jump[0]), 0xFD, p).go(machine, 1);
+                    is("branch " + row[0] + " P " + p, bench, 1, 2, 3, 0xFD, p, goes ? jump[1] : 0x302);
                 }
             }
         }
-        Bench back = new Bench().start(0, 0x0000, "D0 80").first(1);
-        CHECK.same("a branch below 0", back.cores.register(0, Bench.PC), 0xFF82);
-        Bench on = new Bench().start(0, 0xFFF0, "D0 7F").first(1);
-        CHECK.same("a branch over the end", on.cores.register(0, Bench.PC), 0x0071);
+        Bench back = new Bench().start(machine, 0x0000, "D0 80").go(machine, 1);
+        CHECK.same("a branch below 0", back.cores.register(machine, Bench.PC), 0xFF82);
+        Bench on = new Bench().start(machine, 0xFFF0, "D0 7F").go(machine, 1);
+        CHECK.same("a branch over the end", on.cores.register(machine, Bench.PC), 0x0071);
     }
 
     /** Words in page 0 go round there, places with an index go round at 65536. */
     private static void edgesOfWays() {
-        Bench bench = new Bench().put(0, 0xFF, "34").put(0, 0x00, "06").put(0, 0x634, "5A").put(0, 0x300, "A1 FA");
-        is("(x at $FF", bench.state(1, 5, 3, 0xFD, 0x20).first(1), 0x5A, 5, 3, 0xFD, 0x20, 0x302);
-        bench = new Bench().put(0, 0xFF, "34").put(0, 0x00, "06").put(0, 0x637, "5A").put(0, 0x300, "B1 FF");
-        is(")y at $FF", bench.state(1, 5, 3, 0xFD, 0x20).first(1), 0x5A, 5, 3, 0xFD, 0x20, 0x302);
-        bench = new Bench().put(0, 0x20, "FE FF").put(0, 0x03, "5A").put(0, 0x300, "B1 20");
-        is(")y over the end", bench.state(1, 2, 5, 0xFD, 0x20).first(1), 0x5A, 2, 5, 0xFD, 0x20, 0x302);
-        bench = new Bench().put(0, 0x01, "5A").put(0, 0x300, "BD FF FF");
-        is("ax over the end", bench.state(1, 2, 5, 0xFD, 0x20).first(1), 0x5A, 2, 5, 0xFD, 0x20, 0x303);
-        bench = new Bench().put(0, 0x04, "5A").put(0, 0x300, "B9 FF FF");
-        is("ay over the end", bench.state(1, 2, 5, 0xFD, 0x20).first(1), 0x5A, 2, 5, 0xFD, 0x20, 0x303);
-        bench = new Bench().put(0, 0x6E1, "5A").firstWrites(0xFEE1, 0x11).put(0, 0x300, "BD E0 06");
-        is("ax near a port's byte", bench.state(1, 1, 5, 0xFD, 0x20).first(1), 0x5A, 1, 5, 0xFD, 0x20, 0x303);
+        Bench bench = new Bench().put(machine, 0xFF, "34").put(machine, 0x00, "06").put(machine, 0x634, "5A").put(machine, 0x300, "A1 FA");
+        is("(x at $FF", bench.stateAt(machine, 0x300, 1, 5, 3, 0xFD, 0x20).go(machine, 1), 0x5A, 5, 3, 0xFD, 0x20, 0x302);
+        bench = new Bench().put(machine, 0xFF, "34").put(machine, 0x00, "06").put(machine, 0x637, "5A").put(machine, 0x300, "B1 FF");
+        is(")y at $FF", bench.stateAt(machine, 0x300, 1, 5, 3, 0xFD, 0x20).go(machine, 1), 0x5A, 5, 3, 0xFD, 0x20, 0x302);
+        bench = new Bench().put(machine, 0x20, "FE FF").put(machine, 0x03, "5A").put(machine, 0x300, "B1 20");
+        is(")y over the end", bench.stateAt(machine, 0x300, 1, 2, 5, 0xFD, 0x20).go(machine, 1), 0x5A, 2, 5, 0xFD, 0x20, 0x302);
+        bench = new Bench().put(machine, 0x01, "5A").put(machine, 0x300, "BD FF FF");
+        is("ax over the end", bench.stateAt(machine, 0x300, 1, 2, 5, 0xFD, 0x20).go(machine, 1), 0x5A, 2, 5, 0xFD, 0x20, 0x303);
+        bench = new Bench().put(machine, 0x04, "5A").put(machine, 0x300, "B9 FF FF");
+        is("ay over the end", bench.stateAt(machine, 0x300, 1, 2, 5, 0xFD, 0x20).go(machine, 1), 0x5A, 2, 5, 0xFD, 0x20, 0x303);
+        int near = Bench.portPlace(machine, 1) & 0xFF;
+        bench = new Bench().put(machine, 0x600 + near, "5A").writes(machine, 0xFE00 + near, 0x11);
+        bench.put(machine, 0x300, String.format("BD %02X 06", near - 1));
+        is("ax near a port's byte", bench.stateAt(machine, 0x300, 1, 1, 5, 0xFD, 0x20).go(machine, 1), 0x5A, 1, 5, 0xFD, 0x20, 0x303);
     }
 
     /** The machine stands at each other code, and nothing else comes of it. */
@@ -360,14 +401,14 @@ final class InstructionTest {
                 continue;
             }
             stood++;
-            Bench bench = new Bench().put(0, 0x300, String.format("%02X 10 10", code)).state(1, 2, 3, 0xF0, 0xC9);
-            long steps = bench.cores.steps(0);
-            CHECK.same("times till it stands", bench.cores.run(5, 0), 1);
+            Bench bench = new Bench().put(machine, 0x300, String.format("%02X 10 10", code)).stateAt(machine, 0x300, 1, 2, 3, 0xF0, 0xC9);
+            long steps = bench.cores.steps(machine);
+            bench.go(machine, 5);
             int[] due = {1, 2, 3, 0xF0, 0xE9, 0x300, 1};
             for (int k = 0; k < 7; k++) {
-                CHECK.same("code " + code + " register " + k, bench.cores.register(0, k), due[k]);
+                CHECK.same("code " + code + " register " + k, bench.cores.register(machine, k), due[k]);
             }
-            CHECK.same("steps", bench.cores.steps(0), steps + 1);
+            CHECK.same("steps", bench.cores.steps(machine), steps + 1);
         }
         CHECK.same("codes to stand at", stood, 105);
     }

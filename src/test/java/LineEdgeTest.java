@@ -183,12 +183,22 @@ final class LineEdgeTest {
         goesTo("on before, off at RESET, on again", bench, 1, BY_NMI);
     }
 
+    /** Bytes come while machine 0 runs at $F00, or go from it, so that a line of its own would come on for it. */
     private static void nmiNotOfFirst() {
-        Bench bench = new Bench().flags(Bench.SET | Bench.FLAG_M);
-        bench.vector(0, 0xFFFA, BY_NMI).secondWrites(Bench.portPlace(1, 5), 1);
-        bench.start(0, NOBODY, "58 EA EA EA").first(2);
-        CHECK.same("PC", bench.cores.register(0, Bench.PC), NOBODY + 2);
-        CHECK.same("it waits", bench.cores.waits(0, 3), 1);
+        Bench sends = new Bench().flags(Bench.SET | Bench.FLAG_M).vector(0, 0xFFFA, BY_NMI).put(0, BY_NMI, "EA EA EA");
+        sends.start(0, NOBODY, "8D E5 FE EA EA EA").first(4);
+        CHECK.same("it waits for machine 1", sends.cores.waits(1, 3), 1);
+        CHECK.same("machine 0 goes on", sends.cores.register(0, Bench.PC), NOBODY + 6);
+        for (int v = 0; v <= Bench.FLAG_V; v += Bench.FLAG_V) {
+            Bench bench = new Bench().flags(Bench.SET | Bench.FLAG_M | v).vector(0, 0xFFFA, BY_NMI).put(0, BY_NMI, "EA EA EA");
+            bench.start(1, NOBODY, "A9 31 8D FD FE 8D FD FE EA").second(3);
+            CHECK.same("they wait for machine 0", bench.cores.waits(0, 3), v == 0 ? 1 : 2);
+            for (int i = 0; i < 3; i++) {
+                bench.first(1);
+                CHECK.same("goes on at $F00", bench.cores.register(0, Bench.PC), 0xF00);
+                CHECK.same("nothing on its stack", bench.cores.register(0, Bench.S), 0xFD);
+            }
+        }
     }
 
     private static void nmiBeforeIrq() {

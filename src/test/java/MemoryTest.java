@@ -8,6 +8,7 @@ final class MemoryTest {
         placesGoRound();
         portsAreNotMeant();
         machinesAreApart();
+        eachByteIsApart();
         wrongInputs();
         CHECK.end();
     }
@@ -69,6 +70,36 @@ final class MemoryTest {
         cores.load(1, 0x10, 0x66000000, 0, 0, 0, 0, 1);
         CHECK.same("of 0", cores.byteAt(0, 0x10), 0x55);
         CHECK.same("of 1", cores.byteAt(1, 0x10), 0x66);
+    }
+
+    /**
+     * Every byte is filled, then all are asked, a part of them of each object: with
+     * the lower 8 bits of its place, and with the higher 8, so no two places have
+     * the same bytes both times.
+     */
+    private static void eachByteIsApart() {
+        for (int machine = 0; machine < 2; machine++) {
+            for (int shift = 0; shift <= 4; shift += 4) {
+                for (int from = 0; from < 4096; from += 256) {
+                    TwinCores cores = filled(machine, shift);
+                    for (int place = from; place < from + 256; place++) {
+                        CHECK.same("byte " + place + " of " + machine, cores.byteAt(machine, place), place >> shift & 255);
+                    }
+                }
+            }
+        }
+    }
+
+    private static TwinCores filled(int machine, int shift) {
+        TwinCores cores = new TwinCores();
+        for (int place = 0; place < 4096; place += 16) {
+            int[] four = new int[4];
+            for (int i = 0; i < 16; i++) {
+                four[i / 4] |= (place + i >> shift & 255) << 24 - 8 * (i % 4);
+            }
+            cores.load(machine, place, four[0], four[1], four[2], four[3], 0, 16);
+        }
+        return cores;
     }
 
     private static void wrongInputs() {

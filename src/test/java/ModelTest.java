@@ -5,14 +5,15 @@ import java.util.Random;
 /** Runs of made-up calls on TwinCores and on Model: every answer must be the same. */
 final class ModelTest {
     private static final int RUNS = 3000;
-    private static final int CALLS = 500;
+    private static final int CALLS = 512;
 
     private final Check check = new Check();
     private final List<Integer> codes = new ArrayList<>(Model.CODES.keySet());
     private Random random;
     private TwinCores cores;
     private Model model;
-    private String told;
+    private int run;
+    private int calls;
 
     public static void main(String[] args) {
         ModelTest test = new ModelTest();
@@ -20,24 +21,23 @@ final class ModelTest {
             test.random = new Random(run);
             test.cores = new TwinCores();
             test.model = new Model();
-            test.oneRun(run);
+            test.run = run;
+            test.calls = 0;
+            test.oneRun();
         }
         test.check.end();
     }
 
-    private void oneRun(int run) {
-        int calls = 0;
+    /** As many calls as an object is used for. */
+    private void oneRun() {
         for (int machine = 0; machine < 2; machine++) {
             for (int place = 0x200; place < 0x300; place += 20) {
                 load(machine, place, code(machine), 20);
-                calls++;
             }
             load(machine, 0xFFFA, vectors(), 6);
             reset(machine);
-            calls += 2;
         }
-        for (; calls < CALLS; calls++) {
-            told = "run " + run + ", call " + calls;
+        while (calls < CALLS) {
             oneCall();
         }
     }
@@ -48,10 +48,11 @@ final class ModelTest {
             case 0 -> load(machine, place(), code(machine), random.nextInt(23) - 1);
             case 1 -> load(machine, 0x200 + random.nextInt(256), code(machine), 1 + random.nextInt(20));
             case 2 -> {
-                if (random.nextInt(4) == 0) {
+                if (random.nextInt(5) == 0) {
                     load(machine, 0xFFFA, vectors(), 6);
+                } else {
+                    reset(machine);
                 }
-                reset(machine);
             }
             case 3, 4, 5, 6, 7 -> run();
             case 8, 9, 10, 11, 12 -> {
@@ -77,8 +78,7 @@ final class ModelTest {
             }
             default -> {
                 if (random.nextInt(50) == 0) {
-                    cores.clear();
-                    model.clear();
+                    clear();
                 }
             }
         }
@@ -89,7 +89,8 @@ final class ModelTest {
     }
 
     private void same(String call, Answer real, Answer due) {
-        check.same(told + ", " + call, answered(real), answered(due));
+        calls++;
+        check.same("run " + run + ", call " + calls + ", " + call, answered(real), answered(due));
     }
 
     private static long answered(Answer answer) {
@@ -118,6 +119,16 @@ final class ModelTest {
             return 0;
         }, () -> {
             model.reset(machine);
+            return 0;
+        });
+    }
+
+    private void clear() {
+        same("clear", () -> {
+            cores.clear();
+            return 0;
+        }, () -> {
+            model.clear();
             return 0;
         });
     }

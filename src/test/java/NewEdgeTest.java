@@ -1,3 +1,5 @@
+import java.util.List;
+
 /** The edges of a new object, of clear, of reset and of what register tells. */
 final class NewEdgeTest {
     private static final Check CHECK = new Check();
@@ -14,6 +16,7 @@ final class NewEdgeTest {
         CHECK.test("bit 5 of P is always 1, bit 4 0", NewEdgeTest::bitsOfP);
         CHECK.test("RESET: S is $FD, I 1, PC the word at $FFFC", NewEdgeTest::resetSets);
         CHECK.test("RESET: other things stay", NewEdgeTest::resetLeaves);
+        CHECK.test("RESET: other things stay, all that can be asked", NewEdgeTest::resetChangesNothingElse);
         CHECK.test("RESET twice is RESET once", NewEdgeTest::resetTwice);
         CHECK.test("reset: the other machine stays", NewEdgeTest::otherStays);
         CHECK.test("two objects are apart", NewEdgeTest::objectsAreApart);
@@ -170,6 +173,23 @@ final class NewEdgeTest {
             CHECK.same("steps", bench.cores.steps(machine), steps);
             CHECK.same("the stack", bench.cores.byteAt(machine, 0x155), 0xEB);
         }
+    }
+
+    private static void resetChangesNothingElse() {
+        for (State.Past past : Pasts.ALL) {
+            for (int machine = 0; machine < 2; machine++) {
+                int number = machine;
+                List<String> before = State.of(past);
+                List<String> behind = State.of(() -> reset(past.made(), number));
+                before.removeIf(line -> isSetByReset(line, number));
+                behind.removeIf(line -> isSetByReset(line, number));
+                CHECK.holds("as before but for S, P, PC and whether it stands", behind.equals(before));
+            }
+        }
+    }
+
+    private static boolean isSetByReset(String line, int machine) {
+        return line.matches("register " + machine + " [3456] is .*");
     }
 
     private static void resetTwice() {

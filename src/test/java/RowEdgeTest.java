@@ -17,6 +17,7 @@ final class RowEdgeTest {
         onEach("a read status takes nothing", RowEdgeTest::statusTakesNothing);
         onEach("a byte lost is not read later", RowEdgeTest::lostForGood);
         onEach("a change of a byte at a port: one goes, one comes", RowEdgeTest::changeAtPort);
+        CHECK.test("read, the first one goes: none goes that is not read", RowEdgeTest::notReadDoesNotGo);
         CHECK.test("V becomes 1 with a full row: room for one more", RowEdgeTest::becomesLonger);
         CHECK.test("V becomes 0 with an empty row: one alone", RowEdgeTest::becomesShorterEmpty);
         CHECK.test("V becomes 0 with one waiting: no room", RowEdgeTest::becomesShorterWithOne);
@@ -187,6 +188,37 @@ final class RowEdgeTest {
         CHECK.same("the latest is what was read", bench.cores.port(1 - from, 2 * port - 1), 0x7F);
     }
 
+    /**
+     * By stores to the port itself, by an index that goes past it into the next page,
+     * and by codes without a byte behind them, of which the port's would be the first.
+     */
+    private static void notReadDoesNotGo() {
+        for (int machine = 0; machine < 2; machine++) {
+            int low = Bench.portPlace(machine, 1) & 0xFF;
+            staysWaiting(machine, 0x300, String.format("8D %02X FE", low));
+            staysWaiting(machine, 0x300, String.format("8E %02X FE", low));
+            staysWaiting(machine, 0x300, String.format("8C %02X FE", low));
+            staysWaiting(machine, 0x300, String.format("9D %02X FE", low));
+            staysWaiting(machine, 0x300, String.format("99 %02X FE", low));
+            staysWaiting(machine, 0x300, String.format("A2 F0 BD %02X FE", low + 16));
+            for (int code : Model.CODES.keySet()) {
+                if (Model.CODES.get(code)[1].equals("-")) {
+                    staysWaiting(machine, Bench.portPlace(machine, -1), String.format("%02X", code));
+                }
+            }
+        }
+    }
+
+    /** Runs one instruction, and LDX before it where it has one, while a byte of port 1 waits. */
+    private static void staysWaiting(int machine, int place, String code) {
+        Bench bench = new Bench();
+        send(bench, 1 - machine, 1, 0x5A);
+        int steps = code.startsWith("A2") ? 2 : 1;
+        bench.start(machine, place, code).go(machine, steps);
+        CHECK.same(code + ": still waits", bench.cores.waits(machine, 1), 1);
+        CHECK.same(code + ": the same byte", bench.cores.port(machine, 1), 0x5A);
+    }
+
     private static void becomesLonger() {
         for (int from = 0; from < 2; from++) {
             Bench bench = new Bench();
@@ -250,10 +282,15 @@ final class RowEdgeTest {
             for (int from = 0; from < 2; from++) {
                 Bench bench = bench(true);
                 sendMany(bench, from, port, 1, 30);
-                waits("with V 1", bench, from, port, LENGTHS[from][port - 1]);
+                waits("filled with V 1", bench, from, port, LENGTHS[from][port - 1]);
                 bench.flags(Bench.FLAG_V);
-                waits("with V 0", bench, from, port, LENGTHS[from][port - 1]);
+                waits("V became 0", bench, from, port, LENGTHS[from][port - 1]);
                 CHECK.same("the first", receive(bench, from, port), 1);
+                sendMany(bench, from, port, 1, 30);
+                waits("filled with V 0", bench, from, port, LENGTHS[from][port - 1]);
+                bench.flags(Bench.SET | Bench.FLAG_V);
+                sendMany(bench, from, port, 1, 30);
+                waits("V became 1", bench, from, port, LENGTHS[from][port - 1]);
             }
         }
     }
