@@ -29,15 +29,24 @@ final class ArithmeticTest {
         CHECK.end();
     }
 
-    /** A, X and Y are all of the first value; the answer is A and P, once the code was obeyed. */
-    private static int obeyed(String code, int value, int p) {
+    /**
+     * One register has the value, the others have it with all bits turned, so that
+     * none of them can stand for another; the answer is A and P, once the code was obeyed.
+     */
+    private static int obeyed(String code, int register, int value, int p) {
         if (trials == MOST_TRIALS) {
             bench = new Bench();
             trials = 0;
         }
         trials++;
-        bench.put(0, 0x300, code).state(value, value, value, 0xFD, p).first(1);
+        int[] registers = {value ^ 255, value ^ 255, value ^ 255};
+        registers[register] = value;
+        bench.put(0, 0x300, code).state(registers[Bench.A], registers[Bench.X], registers[Bench.Y], 0xFD, p).first(1);
         return bench.cores.register(0, Bench.A) << 8 | bench.cores.register(0, Bench.P);
+    }
+
+    private static int obeyed(String code, int a, int p) {
+        return obeyed(code, Bench.A, a, p);
     }
 
     private static String code(int code, int b) {
@@ -68,11 +77,11 @@ final class ArithmeticTest {
     private static void comparisons(int r, int b) {
         int v = b % 2 == 0 ? V : 0;
         int c = r >= b ? C : 0;
-        int due = r << 8 | shown(r - b & 255) | c | v | I;
-        int[] codes = {0xC9, 0xE0, 0xC0};
-        for (int code : codes) {
-            CHECK.same("comparison " + code + " of " + r + ", " + b, obeyed(code(code, b), r, c ^ C | v | I), due);
-        }
+        int flags = shown(r - b & 255) | c | v | I;
+        int before = c ^ C | v | I;
+        CHECK.same("CMP of " + r + ", " + b, obeyed(code(0xC9, b), Bench.A, r, before), r << 8 | flags);
+        CHECK.same("CPX of " + r + ", " + b, obeyed(code(0xE0, b), Bench.X, r, before), (r ^ 255) << 8 | flags);
+        CHECK.same("CPY of " + r + ", " + b, obeyed(code(0xC0, b), Bench.Y, r, before), (r ^ 255) << 8 | flags);
     }
 
     private static void bits(int a, int b) {

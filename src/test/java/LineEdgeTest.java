@@ -19,6 +19,7 @@ final class LineEdgeTest {
         CHECK.test("NMI: with V a second byte goes and comes", LineEdgeTest::nmiAgain);
         CHECK.test("NMI: whether I is 0 or 1", LineEdgeTest::nmiNotMasked);
         CHECK.test("NMI: was not before the instruction before", LineEdgeTest::nmiOnlyWhenItComesOn);
+        CHECK.test("NMI: a break is a step, so the line is looked at before it", LineEdgeTest::nmiOffAtBreak);
         CHECK.test("NMI: or at RESET", LineEdgeTest::nmiAtReset);
         CHECK.test("NMI: machine 0 has none", LineEdgeTest::nmiNotOfFirst);
         CHECK.test("else IRQ: NMI first", LineEdgeTest::nmiBeforeIrq);
@@ -168,6 +169,15 @@ final class LineEdgeTest {
         goesTo("on", bench.flags(Bench.SET | Bench.FLAG_M), 1, BY_NMI);
         bench = toSecond(ready(1, 0x24), 3).flags(Bench.SET | Bench.FLAG_M).flags(Bench.FLAG_M);
         goesTo("on and off between two steps", bench, 1, NOBODY + 1);
+    }
+
+    private static void nmiOffAtBreak() {
+        Bench bench = toSecond(ready(1, 0x20).flags(Bench.SET | Bench.FLAG_M), 3).put(1, BY_NMI, "58 EA");
+        goesTo("it comes on", bench, 1, BY_NMI);
+        goesTo("CLI", bench, 1, BY_NMI + 1);
+        goesTo("off, and IRQ", toSecond(bench, 1).flags(Bench.FLAG_M).flags(Bench.SET | Bench.FLAG_I), 1, BY_IRQ);
+        goesTo("on behind the break by IRQ", bench.flags(Bench.SET | Bench.FLAG_M), 1, BY_NMI);
+        goesTo("not again behind its own", bench, 1, BY_NMI + 1);
     }
 
     private static void nmiAtReset() {
